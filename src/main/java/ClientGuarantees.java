@@ -128,16 +128,14 @@ public final class ClientGuarantees {
         if (!isClient(client) || !isReplica(replica)) {
             return counted(OUT_OF_RANGE);
         }
-        int best = NONE;
+        // There are but two other replicas: their sets, as rising numbers, rise in size too.
         for (int others = 0; others < 1 << REPLICAS; others++) {
-            // The sets come in rising order, so of two sets of equal size the first one stays.
             if (!contains(others, replica)
-                    && (best == NONE || Integer.bitCount(others) < Integer.bitCount(best))
                     && state.isReadAllowed(client, others | only(replica))) {
-                best = others;
+                return others;
             }
         }
-        return best;
+        return NONE;
     }
 
     public int count(int replica, int origin) {
@@ -216,11 +214,7 @@ public final class ClientGuarantees {
     }
 
     public int undo() {
-        if (history.size == 0) {
-            return counted(NOTHING_SAVED);
-        }
-        history.restoreNewest(state);
-        return history.size;
+        return history.restoreNewest(state) ? history.size : counted(NOTHING_SAVED);
     }
 
     public int errorCount(int code) {
@@ -560,12 +554,14 @@ public final class ClientGuarantees {
             size = Math.min(size + 1, MAX_SAVED);
         }
 
-        void restoreNewest(State state) {
-            if (size > 0) {
-                free = (free + SLOTS - 1) % SLOTS;
-                size--;
-                state.copyFrom(slots[free]);
+        boolean restoreNewest(State state) {
+            if (size == 0) {
+                return false;
             }
+            free = (free + SLOTS - 1) % SLOTS;
+            size--;
+            state.copyFrom(slots[free]);
+            return true;
         }
     }
 

@@ -11,7 +11,7 @@ import java.util.regex.Pattern;
 /**
  * Runs of 512 calls by a fixed seed, against a second store written another way: its replicas hold
  * sets of writes instead of vectors, and its command text is judged by a pattern. Every answer and,
- * after every call, the digest must agree.
+ * after one call in three, the digest must agree.
  */
 public final class ModelTest {
     private static final int RUNS = 600;
@@ -37,7 +37,8 @@ public final class ModelTest {
 
     private void play() {
         while (calls <= CALLS - 2) {
-            if (random.nextInt(12) == 0 && calls <= CALLS - 8) {
+            // Typing takes many calls: the runs with little of it get far enough to fill the store.
+            if (random.nextInt(run % 3 == 0 ? 12 : 100) == 0 && calls <= CALLS - 8) {
                 typeText();
             } else {
                 call(random.nextInt(40));
@@ -47,8 +48,11 @@ public final class ModelTest {
 
     private void agree(String what, long want, long got) {
         Check.due("run " + run + ", call " + calls + ": " + what, want, got);
-        calls += 2;
-        Check.due("run " + run + ", call " + calls + ": digest() after " + what, model.digest(), store.digest());
+        calls++;
+        if (random.nextInt(3) == 0) {
+            Check.due("run " + run + ", call " + calls + ": digest() after " + what, model.digest(), store.digest());
+            calls++;
+        }
     }
 
     /** Mostly a number of the range, now and then one just or far outside of it. */

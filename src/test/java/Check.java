@@ -6,26 +6,32 @@ final class Check {
     private static final int DIGEST_VALUES = 64;
 
     private static int wrong = 0;
+    private static String heading = "";
 
     private Check() {
+    }
+
+    /** Stands before every wrong answer from here on. */
+    static void heading(String words) {
+        heading = words;
     }
 
     static void due(String what, long want, long got) {
         if (want != got) {
             wrong++;
-            System.out.println(what + " answered " + got + ", due is " + want);
+            System.out.println(heading + what + " answered " + got + ", due is " + want);
         }
     }
 
     static void holds(String what, boolean condition) {
         if (!condition) {
             wrong++;
-            System.out.println(what + " does not hold");
+            System.out.println(heading + what + " does not hold");
         }
     }
 
     /** The call must answer the error code, count it once, and change nothing else. */
-    static void refused(String what, ClientGuarantees store, int code, IntSupplier call) {
+    static void refused(String what, Store store, int code, IntSupplier call) {
         long before = store.digest();
         int counted = store.errorCount(code);
         due(what, code, call.getAsInt());
@@ -38,14 +44,14 @@ final class Check {
     }
 
     /** The call must answer what is due and leave every counter and the whole state alone. */
-    static void plain(String what, ClientGuarantees store, int want, IntSupplier call) {
+    static void plain(String what, Store store, int want, IntSupplier call) {
         long before = store.digest();
         due(what, want, call.getAsInt());
         due("digest() after " + what, before, store.digest());
     }
 
     /** The call must succeed and save the state from before it; the call stands again at the end. */
-    static void undoable(String what, ClientGuarantees store, int want, IntSupplier call) {
+    static void undoable(String what, Store store, int want, IntSupplier call) {
         long before = store.digest();
         due(what, want, call.getAsInt());
         long after = store.digest();
@@ -65,12 +71,12 @@ final class Check {
     }
 
     /** Appends a whole text behind an emptied command text and executes it. */
-    static int run(ClientGuarantees store, String commands) {
+    static int run(Store store, String commands) {
         type(store, commands);
         return store.execute();
     }
 
-    static void type(ClientGuarantees store, String commands) {
+    static void type(Store store, String commands) {
         store.clearText();
         for (int i = 0; i < commands.length(); i++) {
             store.append(commands.charAt(i));
@@ -78,7 +84,7 @@ final class Check {
     }
 
     /** Sixty writes of client 3, on all replicas in turn, so that no room is left. */
-    static void fill(ClientGuarantees store) {
+    static void fill(Store store) {
         for (int i = 0; i < 60; i++) {
             store.write(3, i % 3, i % 4, i);
         }

@@ -16,7 +16,7 @@ public final class ClientsTest {
     }
 
     private static void newObject() {
-        ClientGuarantees store = new ClientGuarantees();
+        Store store = new Store();
         Check.due("new: writes()", 0, store.writes());
         Check.due("new: clearText()", 0, store.clearText());
         for (int replica = 0; replica < 3; replica++) {
@@ -42,7 +42,7 @@ public final class ClientsTest {
     }
 
     private static void setGuarantees() {
-        ClientGuarantees store = new ClientGuarantees();
+        Store store = new Store();
         for (int client = 0; client < 4; client++) {
             int previous = 0;
             for (int set = 15; set >= 0; set--) {
@@ -62,7 +62,7 @@ public final class ClientsTest {
     }
 
     private static void setGuaranteesOutOfRange() {
-        ClientGuarantees store = new ClientGuarantees();
+        Store store = new Store();
         store.setGuarantees(1, 9);
         for (int bad : Check.outside(4)) {
             Check.refused("setGuarantees(" + bad + ", 0)", store, -2, () -> store.setGuarantees(bad, 0));
@@ -74,7 +74,7 @@ public final class ClientsTest {
     }
 
     private static void setGuaranteesKeepsVectors() {
-        ClientGuarantees store = new ClientGuarantees();
+        Store store = new Store();
         store.write(2, 0, 0, 1);
         store.write(2, 0, 0, 2);
         store.read(2, 0, 0);
@@ -84,7 +84,7 @@ public final class ClientsTest {
     }
 
     private static void forget() {
-        ClientGuarantees store = new ClientGuarantees();
+        Store store = new Store();
         Check.undoable("forget(0) of a new object", store, 0, () -> store.forget(0));
         store.write(0, 0, 0, 1);
         store.write(0, 0, 0, 2);
@@ -107,14 +107,14 @@ public final class ClientsTest {
     }
 
     private static void forgetKeepsGuarantees() {
-        ClientGuarantees store = new ClientGuarantees();
+        Store store = new Store();
         store.setGuarantees(3, 13);
         store.forget(3);
         Check.due("setGuarantees after forget", 13, store.setGuarantees(3, 0));
     }
 
     private static void forgetOutOfRange() {
-        ClientGuarantees store = new ClientGuarantees();
+        Store store = new Store();
         store.write(0, 0, 0, 1);
         for (int bad : Check.outside(4)) {
             Check.refused("forget(" + bad + ")", store, -2, () -> store.forget(bad));
@@ -122,7 +122,7 @@ public final class ClientsTest {
     }
 
     private static void readCounts() {
-        ClientGuarantees store = new ClientGuarantees();
+        Store store = new Store();
         for (int replica = 0; replica < 3; replica++) {
             for (int i = 0; i <= replica; i++) {
                 store.write(0, replica, 0, 1);
@@ -142,7 +142,7 @@ public final class ClientsTest {
     }
 
     private static void writeCounts() {
-        ClientGuarantees store = new ClientGuarantees();
+        Store store = new Store();
         store.write(1, 0, 0, 1);
         store.write(1, 0, 1, 1);
         store.write(2, 0, 1, 1);
@@ -159,7 +159,7 @@ public final class ClientsTest {
     }
 
     private static void countsOutOfRange() {
-        ClientGuarantees store = new ClientGuarantees();
+        Store store = new Store();
         for (int bad : Check.outside(4)) {
             Check.refused("readCount(" + bad + ", 0)", store, -2, () -> store.readCount(bad, 0));
             Check.refused("writeCount(" + bad + ", 0)", store, -2, () -> store.writeCount(bad, 0));
@@ -171,8 +171,8 @@ public final class ClientsTest {
     }
 
     private static void objectsAreApart() {
-        ClientGuarantees one = new ClientGuarantees();
-        ClientGuarantees other = new ClientGuarantees();
+        Store one = new Store();
+        Store other = new Store();
         long before = other.digest();
         one.write(0, 0, 0, 1);
         one.append(102);

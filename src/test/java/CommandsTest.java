@@ -23,7 +23,7 @@ public final class CommandsTest {
     }
 
     private static void appends() {
-        ClientGuarantees store = new ClientGuarantees();
+        Store store = new Store();
         Check.due("append(0)", 1, store.append(0));
         Check.due("append(127)", 2, store.append(127));
         Check.due("append(59)", 3, store.append(59));
@@ -32,7 +32,7 @@ public final class CommandsTest {
     }
 
     private static void appendsUpToHundred() {
-        ClientGuarantees store = new ClientGuarantees();
+        Store store = new Store();
         for (int i = 1; i <= 100; i++) {
             Check.due("append number " + i, i, store.append(32));
         }
@@ -43,7 +43,7 @@ public final class CommandsTest {
     }
 
     private static void appendOutOfRange() {
-        ClientGuarantees store = new ClientGuarantees();
+        Store store = new Store();
         store.append(32);
         for (int bad : Check.outside(128)) {
             Check.refused("append(" + bad + ")", store, -2, () -> store.append(bad));
@@ -52,7 +52,7 @@ public final class CommandsTest {
     }
 
     private static void clears() {
-        ClientGuarantees store = new ClientGuarantees();
+        Store store = new Store();
         Check.due("clearText() of an empty text", 0, store.clearText());
         Check.type(store, "f0;f1");
         Check.due("clearText()", 5, store.clearText());
@@ -63,7 +63,7 @@ public final class CommandsTest {
     }
 
     private static void executesEachCommand() {
-        ClientGuarantees store = new ClientGuarantees();
+        Store store = new Store();
         Check.due("execute g", 1, Check.run(store, "g 2 13;"));
         Check.due("execute w", 1, Check.run(store, "w 1 2 3 99;"));
         Check.due("execute s", 1, Check.run(store, "s 2 1;"));
@@ -77,10 +77,10 @@ public final class CommandsTest {
     }
 
     private static void executesAsTheMethodsDo() {
-        ClientGuarantees byText = new ClientGuarantees();
+        Store byText = new Store();
         Check.due("execute of a mixed text", 8,
                 Check.run(byText, "g0 6;w0 0 1 7;w0 1 1 8;r0 0 1;s0 1;r0 1 1;w1 2 0 0;f1;"));
-        ClientGuarantees byCalls = new ClientGuarantees();
+        Store byCalls = new Store();
         byCalls.setGuarantees(0, 6);
         byCalls.write(0, 0, 1, 7);
         byCalls.write(0, 1, 1, 8);
@@ -94,7 +94,7 @@ public final class CommandsTest {
     }
 
     private static void wellFormedTexts() {
-        ClientGuarantees store = new ClientGuarantees();
+        Store store = new Store();
         Check.due("no spaces but between numbers", 2, Check.run(store, "g0 1;f0;"));
         Check.due("spaces everywhere", 2, Check.run(store, "  g  0   1  ;  f  0  ;  "));
         Check.due("two digits", 2, Check.run(store, "g00 01;w03 02 03 99;"));
@@ -114,17 +114,17 @@ public final class CommandsTest {
             {"w0 0 0;", 6}, {"w0 0 0 0 0;", 9}, {"w0 0 0 100;", 9}, {"w0 0 0 ", 7}, {"w0 0 0 99", 9},
             {"w0 0 0 9 9;", 9}, {"f9;g", 4}, {"f9;x", 3}, {"f0;w0 0 0 1;q", 12},
         };
-        ClientGuarantees store = new ClientGuarantees();
+        Store store = new Store();
         int calls = 0;
         for (Object[] row : texts) {
             String text = (String) row[0];
             if (calls + text.length() + 4 > 500) {
-                store = new ClientGuarantees();
+                store = new Store();
                 calls = 0;
             }
             calls += text.length() + 4;
             Check.type(store, text);
-            ClientGuarantees current = store;
+            Store current = store;
             Check.plain("execute of \"" + text + "\"", store, -10 - (Integer) row[1], () -> current.execute());
         }
     }
@@ -136,7 +136,7 @@ public final class CommandsTest {
         for (int place = 0; place < text.length(); place++) {
             for (char sign = 0; sign < 128; sign++) {
                 if (allowed[place].indexOf(sign) < 0) {
-                    ClientGuarantees store = new ClientGuarantees();
+                    Store store = new Store();
                     String changed = text.substring(0, place) + sign + text.substring(place + 1);
                     Check.due("execute with byte " + (int) sign + " at " + place, -10 - place,
                             Check.run(store, changed));
@@ -146,12 +146,12 @@ public final class CommandsTest {
     }
 
     private static void longestTexts() {
-        ClientGuarantees store = new ClientGuarantees();
+        Store store = new Store();
         Check.due("33 commands", 33, Check.run(store, "f0;".repeat(33)));
         Check.due("33 commands and a space", 33, Check.run(store, "f0;".repeat(33) + " "));
         Check.due("33 commands and a letter", -110, Check.run(store, "f0;".repeat(33) + "w"));
         Check.due("33 commands and a wrong byte", -109, Check.run(store, "f0;".repeat(33) + "1"));
-        ClientGuarantees other = new ClientGuarantees();
+        Store other = new Store();
         Check.due("100 spaces", -110, Check.run(other, " ".repeat(100)));
         Check.due("a command at the end of 100 bytes", 1, Check.run(other, " ".repeat(97) + "f3;"));
         Check.due("the last of 33 commands stops", -1032, Check.run(other, "f0;".repeat(32) + "f4;"));
@@ -163,7 +163,7 @@ public final class CommandsTest {
             "r4 0 0;", "r0 3 0;", "r0 0 4;", "w4 0 0 0;", "w0 3 0 0;", "w0 0 4 0;",
         };
         for (String command : commands) {
-            ClientGuarantees store = new ClientGuarantees();
+            Store store = new Store();
             Check.type(store, command);
             Check.plain("execute of " + command, store, -1000, () -> store.execute());
             Check.type(store, "w0 0 0 9;g1 3;" + command + "w0 0 0 8;x");
@@ -175,7 +175,7 @@ public final class CommandsTest {
     }
 
     private static void stopTakesEverythingBack() {
-        ClientGuarantees store = new ClientGuarantees();
+        Store store = new Store();
         store.write(0, 0, 0, 1);
         store.write(0, 0, 1, 2);
         store.read(0, 0, 0);
@@ -192,7 +192,7 @@ public final class CommandsTest {
     }
 
     private static void stopsWhenFull() {
-        ClientGuarantees store = new ClientGuarantees();
+        Store store = new Store();
         for (int i = 0; i < 58; i++) {
             store.write(0, 0, 0, i);
         }
@@ -207,7 +207,7 @@ public final class CommandsTest {
     }
 
     private static void skips() {
-        ClientGuarantees store = new ClientGuarantees();
+        Store store = new Store();
         store.setGuarantees(0, 15);
         store.write(0, 0, 0, 1);
         Check.type(store, "r0 1 0;w0 1 0 2;");
@@ -221,7 +221,7 @@ public final class CommandsTest {
     }
 
     private static void savesOneState() {
-        ClientGuarantees store = new ClientGuarantees();
+        Store store = new Store();
         store.setGuarantees(3, 7);
         Check.type(store, "w0 0 0 1;w0 0 0 2;w0 0 0 3;s0 1;s1 2;r1 2 0;g3 1;f0;");
         Check.undoable("execute of eight commands", store, 8, () -> store.execute());
@@ -232,7 +232,7 @@ public final class CommandsTest {
     }
 
     private static void savesNoState() {
-        ClientGuarantees store = new ClientGuarantees();
+        Store store = new Store();
         Check.run(store, "f0;f4;");
         Check.due("undo() after a stop", -6, store.undo());
         Check.run(store, "f0;f");
@@ -249,7 +249,7 @@ public final class CommandsTest {
     }
 
     private static void countsNoErrors() {
-        ClientGuarantees store = new ClientGuarantees();
+        Store store = new Store();
         Check.fill(store);
         Check.run(store, "w0 0 0 0;");
         Check.run(store, "f9;");
@@ -261,7 +261,7 @@ public final class CommandsTest {
     }
 
     private static void textStays() {
-        ClientGuarantees store = new ClientGuarantees();
+        Store store = new Store();
         Check.type(store, "w0 0 0 5;");
         Check.due("execute()", 1, store.execute());
         Check.due("execute() again", 1, store.execute());

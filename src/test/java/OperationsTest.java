@@ -30,7 +30,7 @@ public final class OperationsTest {
     }
 
     private static void readsValues() {
-        ClientGuarantees store = new ClientGuarantees();
+        Store store = new Store();
         store.write(0, 0, 0, 0);
         store.write(0, 0, 3, 99);
         store.write(1, 1, 0, 50);
@@ -42,7 +42,7 @@ public final class OperationsTest {
     }
 
     private static void readMergesVectors() {
-        ClientGuarantees store = new ClientGuarantees();
+        Store store = new Store();
         store.write(0, 0, 0, 1);
         store.write(0, 0, 0, 2);
         store.write(0, 1, 0, 3);
@@ -57,7 +57,7 @@ public final class OperationsTest {
     }
 
     private static void readOfAbsentKey() {
-        ClientGuarantees store = new ClientGuarantees();
+        Store store = new Store();
         store.write(0, 0, 0, 1);
         Check.due("read(1, 0, 1)", 100, store.read(1, 0, 1));
         Check.due("readCount(1, 0) after a read of an absent key", 1, store.readCount(1, 0));
@@ -67,7 +67,7 @@ public final class OperationsTest {
     }
 
     private static void readNotAllowed() {
-        ClientGuarantees store = new ClientGuarantees();
+        Store store = new Store();
         store.setGuarantees(0, 1);
         store.setGuarantees(1, 2);
         store.setGuarantees(2, 3);
@@ -87,7 +87,7 @@ public final class OperationsTest {
     }
 
     private static void readRequestsOnlyWhatConcernsReads() {
-        ClientGuarantees store = new ClientGuarantees();
+        Store store = new Store();
         store.setGuarantees(0, 12);
         store.write(0, 0, 0, 7);
         store.read(0, 0, 0);
@@ -105,7 +105,7 @@ public final class OperationsTest {
     }
 
     private static void readOutOfRange() {
-        ClientGuarantees store = new ClientGuarantees();
+        Store store = new Store();
         store.write(0, 0, 0, 1);
         for (int bad : Check.outside(4)) {
             Check.refused("read(" + bad + ", 0, 0)", store, -2, () -> store.read(bad, 0, 0));
@@ -117,7 +117,7 @@ public final class OperationsTest {
     }
 
     private static void writeAnswersSequence() {
-        ClientGuarantees store = new ClientGuarantees();
+        Store store = new Store();
         Check.undoable("write(0, 0, 0, 5)", store, 1, () -> store.write(0, 0, 0, 5));
         Check.undoable("write(1, 0, 1, 6)", store, 2, () -> store.write(1, 0, 1, 6));
         Check.undoable("write(2, 2, 2, 7)", store, 1, () -> store.write(2, 2, 2, 7));
@@ -133,7 +133,7 @@ public final class OperationsTest {
     }
 
     private static void writeNotAllowed() {
-        ClientGuarantees store = new ClientGuarantees();
+        Store store = new Store();
         store.setGuarantees(0, 8);
         store.setGuarantees(1, 4);
         store.write(0, 0, 0, 7);
@@ -149,7 +149,7 @@ public final class OperationsTest {
     }
 
     private static void writeRequestsOnlyWhatConcernsWrites() {
-        ClientGuarantees store = new ClientGuarantees();
+        Store store = new Store();
         store.setGuarantees(0, 3);
         store.write(0, 0, 0, 7);
         store.read(0, 0, 0);
@@ -167,7 +167,7 @@ public final class OperationsTest {
     }
 
     private static void writeOutOfRange() {
-        ClientGuarantees store = new ClientGuarantees();
+        Store store = new Store();
         store.write(0, 0, 0, 1);
         for (int bad : Check.outside(4)) {
             Check.refused("write(" + bad + ", 0, 0, 0)", store, -2, () -> store.write(bad, 0, 0, 0));
@@ -182,7 +182,7 @@ public final class OperationsTest {
     }
 
     private static void writeFull() {
-        ClientGuarantees store = new ClientGuarantees();
+        Store store = new Store();
         Check.fill(store);
         Check.refused("write(0, 0, 0, 1) to a full store", store, -4, () -> store.write(0, 0, 0, 1));
         Check.refused("write(0, 0, 0, 100) is out of range first", store, -2, () -> store.write(0, 0, 0, 100));
@@ -193,7 +193,7 @@ public final class OperationsTest {
         Check.undoable("write(0, 2, 0, 1) where room is again", store, 20, () -> store.write(0, 2, 0, 1));
         Check.refused("write(0, 0, 0, 1) to the store full again", store, -4, () -> store.write(0, 0, 0, 1));
 
-        ClientGuarantees single = new ClientGuarantees();
+        Store single = new Store();
         for (int i = 1; i <= 60; i++) {
             Check.due("write " + i + " at one replica", i, single.write(0, 1, 0, i));
         }
@@ -203,7 +203,7 @@ public final class OperationsTest {
     }
 
     private static void writeValuesAndKeys() {
-        ClientGuarantees store = new ClientGuarantees();
+        Store store = new Store();
         for (int key = 0; key < 4; key++) {
             store.write(key, 1, key, 33 * key);
         }
@@ -215,7 +215,7 @@ public final class OperationsTest {
     }
 
     private static void syncLearns() {
-        ClientGuarantees store = new ClientGuarantees();
+        Store store = new Store();
         store.write(0, 0, 0, 1);
         store.write(0, 0, 1, 2);
         store.write(0, 1, 2, 3);
@@ -232,7 +232,7 @@ public final class OperationsTest {
     }
 
     private static void syncGoesOneWay() {
-        ClientGuarantees store = new ClientGuarantees();
+        Store store = new Store();
         store.write(0, 0, 0, 1);
         store.write(1, 1, 0, 2);
         store.write(1, 1, 0, 3);
@@ -245,7 +245,7 @@ public final class OperationsTest {
     }
 
     private static void syncKnowsNoGaps() {
-        ClientGuarantees store = new ClientGuarantees();
+        Store store = new Store();
         store.write(0, 0, 0, 1);
         store.sync(0, 1);
         store.write(0, 0, 0, 2);
@@ -259,7 +259,7 @@ public final class OperationsTest {
     }
 
     private static void syncOutOfRange() {
-        ClientGuarantees store = new ClientGuarantees();
+        Store store = new Store();
         store.write(0, 0, 0, 1);
         for (int bad : Check.outside(3)) {
             Check.refused("sync(" + bad + ", 0)", store, -2, () -> store.sync(bad, 0));
@@ -273,7 +273,7 @@ public final class OperationsTest {
     }
 
     private static void breachesWithoutRequest() {
-        ClientGuarantees store = new ClientGuarantees();
+        Store store = new Store();
         store.write(0, 0, 0, 1);
         store.write(1, 1, 0, 1);
         store.read(1, 0, 0);
@@ -293,7 +293,7 @@ public final class OperationsTest {
     }
 
     private static void breachesOutOfRange() {
-        ClientGuarantees store = new ClientGuarantees();
+        Store store = new Store();
         for (int bad : Check.outside(4)) {
             Check.refused("readBreaches(" + bad + ", 0)", store, -2, () -> store.readBreaches(bad, 0));
             Check.refused("writeBreaches(" + bad + ", 0)", store, -2, () -> store.writeBreaches(bad, 0));
@@ -305,7 +305,7 @@ public final class OperationsTest {
     }
 
     private static void suitableReplicas() {
-        ClientGuarantees store = new ClientGuarantees();
+        Store store = new Store();
         Check.plain("readableReplica(0) of a new object", store, 0, () -> store.readableReplica(0));
         Check.plain("writableReplica(0) of a new object", store, 0, () -> store.writableReplica(0));
         store.write(0, 2, 0, 1);
@@ -330,7 +330,7 @@ public final class OperationsTest {
     }
 
     private static void noSuitableReplica() {
-        ClientGuarantees store = new ClientGuarantees();
+        Store store = new Store();
         store.write(0, 0, 0, 1);
         store.write(0, 1, 0, 1);
         store.setGuarantees(0, 9);
@@ -339,14 +339,14 @@ public final class OperationsTest {
         store.sync(0, 1);
         Check.plain("readableReplica(0) after sync", store, 1, () -> store.readableReplica(0));
         Check.plain("writableReplica(0) after sync", store, 1, () -> store.writableReplica(0));
-        ClientGuarantees full = new ClientGuarantees();
+        Store full = new Store();
         Check.fill(full);
         Check.plain("writableReplica(0) of a full store asks for allowance alone", full, 0,
                 () -> full.writableReplica(0));
     }
 
     private static void suitableOutOfRange() {
-        ClientGuarantees store = new ClientGuarantees();
+        Store store = new Store();
         for (int bad : Check.outside(4)) {
             Check.refused("readableReplica(" + bad + ")", store, -2, () -> store.readableReplica(bad));
             Check.refused("writableReplica(" + bad + ")", store, -2, () -> store.writableReplica(bad));
@@ -354,7 +354,7 @@ public final class OperationsTest {
     }
 
     private static void syncsForRead() {
-        ClientGuarantees store = new ClientGuarantees();
+        Store store = new Store();
         store.setGuarantees(0, 3);
         store.write(0, 2, 0, 1);
         Check.plain("syncsForRead(0, 2), allowed already", store, 0, () -> store.syncsForRead(0, 2));
@@ -366,7 +366,7 @@ public final class OperationsTest {
     }
 
     private static void syncsForReadOfTwo() {
-        ClientGuarantees store = new ClientGuarantees();
+        Store store = new Store();
         store.setGuarantees(0, 1);
         store.write(0, 1, 0, 1);
         store.write(0, 2, 0, 1);
@@ -383,7 +383,7 @@ public final class OperationsTest {
     }
 
     private static void syncsForReadLooksAtRequests() {
-        ClientGuarantees store = new ClientGuarantees();
+        Store store = new Store();
         store.write(0, 1, 0, 1);
         store.read(0, 2, 0);
         store.write(1, 2, 0, 1);
@@ -399,7 +399,7 @@ public final class OperationsTest {
     }
 
     private static void syncsForReadOutOfRange() {
-        ClientGuarantees store = new ClientGuarantees();
+        Store store = new Store();
         for (int bad : Check.outside(4)) {
             Check.refused("syncsForRead(" + bad + ", 0)", store, -2, () -> store.syncsForRead(bad, 0));
         }

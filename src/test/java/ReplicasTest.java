@@ -14,7 +14,7 @@ public final class ReplicasTest {
     }
 
     private static void counts() {
-        ClientGuarantees store = new ClientGuarantees();
+        Store store = new Store();
         store.write(0, 0, 0, 1);
         store.write(0, 1, 0, 1);
         store.write(0, 1, 0, 1);
@@ -32,7 +32,7 @@ public final class ReplicasTest {
     }
 
     private static void clocks() {
-        ClientGuarantees store = new ClientGuarantees();
+        Store store = new Store();
         store.write(0, 0, 0, 1);
         store.write(0, 0, 0, 1);
         store.write(0, 0, 0, 1);
@@ -51,7 +51,7 @@ public final class ReplicasTest {
     }
 
     private static void peeks() {
-        ClientGuarantees store = new ClientGuarantees();
+        Store store = new Store();
         store.write(0, 0, 0, 0);
         store.write(0, 0, 1, 99);
         store.setGuarantees(0, 15);
@@ -61,7 +61,7 @@ public final class ReplicasTest {
     }
 
     private static void laterWrites() {
-        ClientGuarantees store = new ClientGuarantees();
+        Store store = new Store();
         store.write(0, 2, 0, 20);
         store.write(0, 0, 1, 1);
         store.write(0, 0, 0, 2);
@@ -77,7 +77,7 @@ public final class ReplicasTest {
     }
 
     private static void peeksAbsent() {
-        ClientGuarantees store = new ClientGuarantees();
+        Store store = new Store();
         store.write(0, 0, 2, 5);
         Check.refused("peek(0, 1) of another key", store, -5, () -> store.peek(0, 1));
         Check.refused("peek(1, 2) at another replica", store, -5, () -> store.peek(1, 2));
@@ -85,7 +85,7 @@ public final class ReplicasTest {
     }
 
     private static void compares() {
-        ClientGuarantees store = new ClientGuarantees();
+        Store store = new Store();
         Check.plain("compare(0, 1) of a new object", store, 0, () -> store.compare(0, 1));
         store.write(0, 0, 0, 1);
         Check.plain("compare(0, 1) where 0 knows more", store, 1, () -> store.compare(0, 1));
@@ -103,7 +103,7 @@ public final class ReplicasTest {
     }
 
     private static void breaches() {
-        ClientGuarantees store = new ClientGuarantees();
+        Store store = new Store();
         store.write(0, 0, 0, 1);
         store.read(0, 0, 0);
         store.write(1, 0, 0, 1);
@@ -122,7 +122,7 @@ public final class ReplicasTest {
     }
 
     private static void breachesBeforeTheOperation() {
-        ClientGuarantees store = new ClientGuarantees();
+        Store store = new Store();
         store.write(0, 0, 0, 1);
         Check.due("breaches(3) of the first write", 0, store.breaches(3));
         store.read(0, 0, 0);
@@ -139,8 +139,8 @@ public final class ReplicasTest {
     }
 
     private static void outOfRange() {
-        ClientGuarantees store = new ClientGuarantees();
-        ClientGuarantees other = new ClientGuarantees();
+        Store store = new Store();
+        Store other = new Store();
         for (int bad : Check.outside(3)) {
             Check.refused("count(" + bad + ", 0)", store, -2, () -> store.count(bad, 0));
             Check.refused("count(0, " + bad + ")", store, -2, () -> store.count(0, bad));

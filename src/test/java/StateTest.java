@@ -17,7 +17,7 @@ public final class StateTest {
     }
 
     private static void undoes() {
-        ClientGuarantees store = new ClientGuarantees();
+        Store store = new Store();
         Check.refused("undo() of a new object", store, -6, () -> store.undo());
         store.write(0, 0, 0, 1);
         store.setGuarantees(0, 3);
@@ -29,7 +29,7 @@ public final class StateTest {
     }
 
     private static void undoKeepsFour() {
-        ClientGuarantees store = new ClientGuarantees();
+        Store store = new Store();
         for (int i = 1; i <= 11; i++) {
             store.write(0, 0, 0, i);
         }
@@ -53,7 +53,7 @@ public final class StateTest {
     }
 
     private static void undoRestoresEverything() {
-        ClientGuarantees store = new ClientGuarantees();
+        Store store = new Store();
         store.setGuarantees(0, 5);
         store.write(0, 0, 0, 1);
         store.write(1, 1, 0, 1);
@@ -72,7 +72,7 @@ public final class StateTest {
     }
 
     private static void undoLeavesErrorsAndText() {
-        ClientGuarantees store = new ClientGuarantees();
+        Store store = new Store();
         store.write(0, 0, 0, 1);
         store.peek(1, 1);
         Check.type(store, "f0;");
@@ -83,7 +83,7 @@ public final class StateTest {
     }
 
     private static void undoneWritesGiveWay() {
-        ClientGuarantees store = new ClientGuarantees();
+        Store store = new Store();
         store.write(0, 0, 0, 1);
         store.write(0, 0, 1, 2);
         store.undo();
@@ -96,7 +96,7 @@ public final class StateTest {
     }
 
     private static void failedCallsSaveNothing() {
-        ClientGuarantees store = new ClientGuarantees();
+        Store store = new Store();
         store.setGuarantees(9, 0);
         store.forget(9);
         store.read(9, 0, 0);
@@ -112,7 +112,7 @@ public final class StateTest {
     }
 
     private static void queriesSaveNothing() {
-        ClientGuarantees store = new ClientGuarantees();
+        Store store = new Store();
         store.readCount(0, 0);
         store.writeCount(0, 0);
         store.readBreaches(0, 0);
@@ -135,7 +135,7 @@ public final class StateTest {
     }
 
     private static void errorCounts() {
-        ClientGuarantees store = new ClientGuarantees();
+        Store store = new Store();
         Check.fill(store);
         store.setGuarantees(3, 8);
         for (int i = 0; i < 2; i++) {
@@ -153,7 +153,7 @@ public final class StateTest {
         for (int i = 0; i < 6; i++) {
             store.undo();
         }
-        ClientGuarantees empty = new ClientGuarantees();
+        Store empty = new Store();
         for (int i = 0; i < 5; i++) {
             empty.peek(0, 0);
         }
@@ -170,7 +170,7 @@ public final class StateTest {
     }
 
     private static void errorCountOutOfRange() {
-        ClientGuarantees store = new ClientGuarantees();
+        Store store = new Store();
         int[] codes = {-1, 0, 1, 2, 6, -7, -8, -100, Integer.MIN_VALUE, Integer.MAX_VALUE};
         for (int code : codes) {
             Check.refused("errorCount(" + code + ")", store, -2, () -> store.errorCount(code));
@@ -179,7 +179,7 @@ public final class StateTest {
     }
 
     private static void writes() {
-        ClientGuarantees store = new ClientGuarantees();
+        Store store = new Store();
         Check.plain("writes() of a new object", store, 0, () -> store.writes());
         store.write(0, 0, 0, 1);
         store.write(0, 0, 0, 1);
@@ -199,11 +199,11 @@ public final class StateTest {
             boolean isKey = i >= 6 && i < 30 && (i - 6) % 8 >= 4;
             hash = 31 * hash + (isKey ? 100 : 0);
         }
-        Check.due("digest() of a new object", hash, new ClientGuarantees().digest());
+        Check.due("digest() of a new object", hash, new Store().digest());
     }
 
     private static void digestOfEveryPart() {
-        ClientGuarantees store = new ClientGuarantees();
+        Store store = new Store();
         store.setGuarantees(1, 6);
         store.write(0, 0, 2, 33);
         store.write(0, 2, 3, 44);

@@ -36,7 +36,8 @@ public final class BoundaryChoicesTest extends Boundary {
     }
 
     private void readBreachesRequestedOrNot() {
-        sentence(9, "Returns the guarantees that a read of a client at a replica would not satisfy, requested or not.");
+        sentence(9, "Returns the guarantees that a read of a client at a replica would not satisfy, "
+                + "requested or not.");
         Store store = wroteAtZeroAndReadAtOne();
         int[] wanted = {2, 1, 3};
         for (int set = 0; set < 16; set++) {
@@ -69,7 +70,8 @@ public final class BoundaryChoicesTest extends Boundary {
     }
 
     private void writeBreachesRequestedOrNot() {
-        sentence(10, "Returns the guarantees that a write of a client at a replica would not satisfy, requested or not.");
+        sentence(10, "Returns the guarantees that a write of a client at a replica would not satisfy, "
+                + "requested or not.");
         Store store = wroteAtZeroAndReadAtOne();
         int[] wanted = {4, 8, 12};
         for (int set = 0; set < 16; set++) {

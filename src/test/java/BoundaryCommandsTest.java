@@ -1,3 +1,5 @@
+import java.util.function.ToIntFunction;
+
 /** The boundary cases of promises 19 to 21, and of the rules of the command text, a sentence each. */
 public final class BoundaryCommandsTest extends Boundary {
     /** One command of each kind; the last byte of each is its semicolon. */
@@ -17,6 +19,7 @@ public final class BoundaryCommandsTest extends Boundary {
         clearLength();
         textHasAtMostHundredBytes();
         commandsEndWithSemicolon();
+        commandsAreAsTheMethods();
         numbersHaveOneOrTwoDigits();
         spacesAnywhere();
         spacesRequired();
@@ -162,6 +165,44 @@ public final class BoundaryCommandsTest extends Boundary {
             answers(bare + ",", -10 - (length - 1));
         }
         answers(String.join("", KINDS), 5);
+    }
+
+    private void commandsAreAsTheMethods() {
+        rule("\"g client guarantees\" (as setGuarantees), \"r client replica key\" (as read), "
+                + "\"w client replica key value\" (as write), \"s from to\" (as sync), \"f client\" (as forget).",
+                2, 3, 6, 7, 8, 21);
+        sameAs("g0 0;", store -> store.setGuarantees(0, 0));
+        sameAs("g3 15;", store -> store.setGuarantees(3, 15));
+        sameAs("r0 0 0;", store -> store.read(0, 0, 0));
+        sameAs("r3 2 1;", store -> store.read(3, 2, 1));
+        sameAs("r1 2 3;", store -> store.read(1, 2, 3));
+        sameAs("w0 0 0 0;", store -> store.write(0, 0, 0, 0));
+        sameAs("w3 2 1 99;", store -> store.write(3, 2, 1, 99));
+        sameAs("w1 2 3 42;", store -> store.write(1, 2, 3, 42));
+        sameAs("s0 2;", store -> store.sync(0, 2));
+        sameAs("s2 0;", store -> store.sync(2, 0));
+        sameAs("f0;", store -> store.forget(0));
+        sameAs("f3;", store -> store.forget(3));
+    }
+
+    /** The command, alone in a text, must do what the call does, in a store where each call matters. */
+    private void sameAs(String command, ToIntFunction<Store> call) {
+        Store byText = store();
+        Store byCall = store();
+        for (Store store : new Store[] {byText, byCall}) {
+            for (int i = 0; i < 12; i++) {
+                store.write(i % 4, i % 3, i % 4, i);
+                store.read(i % 4, i % 3, 0);
+            }
+        }
+        Check.due("execute of \"" + command + "\"", 1, Check.run(byText, command));
+        byText.clearText();
+        Check.holds("the call of \"" + command + "\" succeeds", call.applyAsInt(byCall) >= 0);
+        Check.due("digest() after \"" + command + "\"", byCall.digest(), byText.digest());
+        for (int i = 0; i < 4; i++) {
+            Check.due("undo() after \"" + command + "\"", byCall.undo(), byText.undo());
+            Check.due("digest() after undo()", byCall.digest(), byText.digest());
+        }
     }
 
     private void numbersHaveOneOrTwoDigits() {

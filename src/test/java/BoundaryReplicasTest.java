@@ -11,6 +11,7 @@ public final class BoundaryReplicasTest extends Boundary {
         clockEdges();
         clockOutOfRange();
         peekWithoutClient();
+        peekValue();
         peekOutOfRange();
         peekOutOfRangeFirst();
         peekAbsent();
@@ -18,6 +19,7 @@ public final class BoundaryReplicasTest extends Boundary {
         compareCovers();
         compareNeither();
         compareOutOfRange();
+        breachesOfWhich();
         breachesEdges();
         breachesOutOfRange();
     }
@@ -82,6 +84,22 @@ public final class BoundaryReplicasTest extends Boundary {
         for (int client = 0; client < 4; client++) {
             Check.due("readCount(" + client + ", 0) after peek", 0, store.readCount(client, 0));
             Check.due("breaches(" + client + ") after peek", 0, store.breaches(client));
+        }
+    }
+
+    private void peekValue() {
+        sentence(16, "Returns the value;");
+        for (int replica = 0; replica < 3; replica++) {
+            int r = replica;
+            Store store = store();
+            store.write(0, replica, 0, 0);
+            store.write(0, replica, 3, 99);
+            Check.plain("peek of the least value", store, 0, () -> store.peek(r, 0));
+            Check.plain("peek of the greatest value", store, 99, () -> store.peek(r, 3));
+            store.write(0, replica, 0, 99);
+            store.write(0, replica, 3, 0);
+            Check.plain("peek of 99 written over 0", store, 99, () -> store.peek(r, 0));
+            Check.plain("peek of 0 written over 99", store, 0, () -> store.peek(r, 3));
         }
     }
 
@@ -182,6 +200,27 @@ public final class BoundaryReplicasTest extends Boundary {
     private void compareOutOfRange() {
         sentence(17, "OUT_OF_RANGE if an argument is out of range.");
         everyMix("compare", (store, a) -> store.compare(a[0], a[1]), 3, 3);
+    }
+
+    private void breachesOfWhich() {
+        sentence(18, "`guarantee`: 0 for read your writes, 1 for monotonic reads, 2 for writes follow reads, "
+                + "3 for monotonic writes");
+        for (int guarantee = 0; guarantee < 4; guarantee++) {
+            Store store = store();
+            store.write(0, 0, 0, 1);
+            store.read(1, 0, 0);
+            int client = guarantee == 0 || guarantee == 3 ? 0 : 1;
+            if (guarantee < 2) {
+                store.read(client, 2, 0);
+            } else {
+                store.write(client, 2, 0, 1);
+            }
+            for (int asked = 0; asked < 4; asked++) {
+                int g = asked;
+                Check.plain("breaches(" + g + ") after one of " + guarantee, store, g == guarantee ? 1 : 0,
+                        () -> store.breaches(g));
+            }
+        }
     }
 
     private void breachesEdges() {

@@ -18,6 +18,7 @@ public final class BoundaryRulesTest extends Boundary {
         values();
         firstSequenceNumber();
         atMostSixtyWrites();
+        countOfKnownWrites();
         noGaps();
         covers();
         merges();
@@ -35,6 +36,7 @@ public final class BoundaryRulesTest extends Boundary {
         bitsOfGuarantees();
         readSatisfies();
         writeSatisfies();
+        concernsReadsOrWrites();
         allowedIfEachRequested();
         readMerges();
         writeSetsCount();
@@ -193,6 +195,36 @@ public final class BoundaryRulesTest extends Boundary {
         }
     }
 
+    private void countOfKnownWrites() {
+        rule("count o is the number of writes with origin o that the replica knows.", 14);
+        Store store = store();
+        for (int replica = 0; replica < 3; replica++) {
+            for (int i = 0; i <= replica; i++) {
+                store.write(0, replica, 0, 1);
+            }
+        }
+        int[][] before = {{1, 0, 0}, {0, 2, 0}, {0, 0, 3}};
+        counts("before syncs", store, before);
+        store.sync(2, 0);
+        store.sync(0, 1);
+        store.write(0, 2, 0, 1);
+        int[][] after = {{1, 0, 3}, {1, 2, 3}, {0, 0, 4}};
+        counts("after syncs", store, after);
+        store.undo();
+        store.undo();
+        int[][] undone = {{1, 0, 3}, {0, 2, 0}, {0, 0, 3}};
+        counts("after undo()", store, undone);
+    }
+
+    private static void counts(String when, Store store, int[][] wanted) {
+        for (int replica = 0; replica < 3; replica++) {
+            for (int origin = 0; origin < 3; origin++) {
+                Check.due("count(" + replica + ", " + origin + ") " + when, wanted[replica][origin],
+                        store.count(replica, origin));
+            }
+        }
+    }
+
     private void noGaps() {
         rule("A replica always knows the first writes of each origin, without gaps.", 8, 14, 16);
         Store store = store();
@@ -293,7 +325,8 @@ public final class BoundaryRulesTest extends Boundary {
     }
 
     private void clockOfLearnedWrites() {
-        rule("its clock becomes the greatest of its own clock and the timestamps of the writes that it learned.", 8, 15);
+        rule("its clock becomes the greatest of its own clock and the timestamps of the writes that it learned.",
+                8, 15);
         for (int own = 0; own <= 4; own++) {
             Store store = store();
             for (int i = 0; i < own; i++) {
@@ -524,7 +557,8 @@ public final class BoundaryRulesTest extends Boundary {
             int at = (origin + 1) % 3;
             for (int known = 0; known <= 2; known++) {
                 Store wrote = writtenAndKnown(origin, at, known);
-                Check.due("writeBreaches with " + known + " of 2 known", known == 2 ? 0 : 8, wrote.writeBreaches(0, at));
+                Check.due("writeBreaches with " + known + " of 2 known", known == 2 ? 0 : 8,
+                        wrote.writeBreaches(0, at));
                 wrote.read(1, origin, 0);
                 Check.due("writeBreaches of a reader", known == 2 ? 0 : 4, wrote.writeBreaches(1, at));
                 wrote.setGuarantees(0, 8);
@@ -542,6 +576,25 @@ public final class BoundaryRulesTest extends Boundary {
         store.read(0, 1, 3);
         store.write(0, 0, 3, 2);
         return store;
+    }
+
+    private void concernsReadsOrWrites() {
+        rule("The guarantees that concern reads are the first two; those that concern writes are the last two.",
+                6, 7, 18);
+        Store reader = wroteAtZeroAndReadAtOne();
+        reader.setGuarantees(0, 12);
+        Check.due("read(0, 2, 0) with both that concern writes", 100, reader.read(0, 2, 0));
+        Check.due("breaches(0) by a read", 1, reader.breaches(0));
+        Check.due("breaches(1) by a read", 1, reader.breaches(1));
+        Check.due("breaches(2), which no read breaks", 1, reader.breaches(2));
+        Check.due("breaches(3), which no read breaks", 0, reader.breaches(3));
+        Store writer = wroteAtZeroAndReadAtOne();
+        writer.setGuarantees(0, 3);
+        Check.due("write(0, 2, 0, 1) with both that concern reads", 1, writer.write(0, 2, 0, 1));
+        Check.due("breaches(0), which no write breaks", 0, writer.breaches(0));
+        Check.due("breaches(1), which no write breaks", 0, writer.breaches(1));
+        Check.due("breaches(2) by a write", 2, writer.breaches(2));
+        Check.due("breaches(3) by a write", 1, writer.breaches(3));
     }
 
     private void allowedIfEachRequested() {

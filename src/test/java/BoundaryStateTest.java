@@ -18,7 +18,11 @@ public final class BoundaryStateTest extends Boundary {
         writesRange();
         digestOfNewObject();
         digestOfErrors();
+        digestOfWrites();
+        digestOfReplicas();
         digestOfAbsentKey();
+        digestOfClients();
+        digestOfBreaches();
         digestOfTextLength();
         digestOfSavedStates();
         digestOverflow();
@@ -201,6 +205,114 @@ public final class BoundaryStateTest extends Boundary {
         values[3] = 2;
         values[4] = 3;
         Check.due("digest() after errors", hash(values), store.digest());
+    }
+
+    private void digestOfWrites() {
+        sentence(25, "the number of writes;");
+        Store store = store();
+        for (int i = 1; i <= 60; i++) {
+            store.write(0, 1, 2, 0);
+            if (i == 1 || i == 59 || i == 60) {
+                int[] values = newValues();
+                values[5] = i;
+                values[14 + 1] = i;
+                values[14 + 3] = i;
+                values[14 + 4 + 2] = 0;
+                values[30 + 4 + 1] = i;
+                values[63] = Math.min(i, 4);
+                Check.due("digest() of " + i + " writes", hash(values), store.digest());
+            }
+        }
+    }
+
+    private void digestOfReplicas() {
+        sentence(25, "for each replica its three counts, its clock and,");
+        Store store = store();
+        for (int replica = 0; replica < 3; replica++) {
+            for (int i = 0; i < 5 - replica; i++) {
+                store.write(0, replica, replica, 90 + i);
+            }
+        }
+        store.sync(0, 2);
+        store.sync(1, 0);
+        store.forget(0);
+        int[] values = newValues();
+        int[] replicas = {
+            5, 4, 0, 5, 94, 93, 100, 100,
+            0, 4, 0, 4, 100, 93, 100, 100,
+            5, 0, 3, 5, 94, 100, 92, 100,
+        };
+        System.arraycopy(replicas, 0, values, 6, replicas.length);
+        values[5] = 12;
+        // Each write at 1 and at 2 misses the writes at 0.
+        values[61] = 7;
+        values[63] = 4;
+        Check.due("digest() with counts and clocks", hash(values), store.digest());
+    }
+
+    private void digestOfClients() {
+        sentence(25, "for each client its guarantees, its three read counts and its three write counts;");
+        Store store = store();
+        int[] values = newValues();
+        store.write(0, 0, 3, 1);
+        store.write(1, 0, 3, 2);
+        store.write(3, 1, 3, 3);
+        store.write(2, 2, 3, 4);
+        store.sync(2, 1);
+        store.read(3, 0, 0);
+        store.read(2, 1, 0);
+        for (int client = 0; client < 4; client++) {
+            store.setGuarantees(client, 15 - client);
+        }
+        int[] replicas = {
+            2, 0, 0, 2, 100, 100, 100, 2,
+            0, 1, 1, 1, 100, 100, 100, 4,
+            0, 0, 1, 1, 100, 100, 100, 4,
+        };
+        int[] clients = {
+            15, 0, 0, 0, 1, 0, 0,
+            14, 0, 0, 0, 2, 0, 0,
+            13, 0, 1, 1, 0, 0, 1,
+            12, 2, 0, 0, 0, 1, 0,
+        };
+        System.arraycopy(replicas, 0, values, 6, replicas.length);
+        System.arraycopy(clients, 0, values, 30, clients.length);
+        values[5] = 4;
+        // Client 3 wrote at 1 and read at 0, which knows nothing of that.
+        values[58] = 1;
+        values[63] = 4;
+        Check.due("digest() of four clients", hash(values), store.digest());
+    }
+
+    private void digestOfBreaches() {
+        sentence(25, "the four numbers of breaches;");
+        Store store = store();
+        store.write(0, 0, 0, 0);
+        store.read(1, 0, 0);
+        for (int i = 0; i < 4; i++) {
+            store.read(0, 2, 0);
+        }
+        for (int i = 0; i < 3; i++) {
+            store.read(1, 2, 0);
+        }
+        for (int i = 0; i < 2; i++) {
+            store.write(1, 1, 0, 0);
+        }
+        store.write(0, 1, 0, 0);
+        store.forget(0);
+        store.forget(1);
+        int[] values = newValues();
+        int[] replicas = {
+            1, 0, 0, 1, 0, 100, 100, 100,
+            0, 3, 0, 3, 0, 100, 100, 100,
+            0, 0, 0, 0, 100, 100, 100, 100,
+        };
+        int[] breaches = {4, 3, 2, 1};
+        System.arraycopy(replicas, 0, values, 6, replicas.length);
+        System.arraycopy(breaches, 0, values, 58, breaches.length);
+        values[5] = 4;
+        values[63] = 4;
+        Check.due("digest() with breaches", hash(values), store.digest());
     }
 
     private void digestOfAbsentKey() {

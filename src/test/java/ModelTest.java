@@ -11,7 +11,8 @@ import java.util.regex.Pattern;
 /**
  * Runs of 512 calls by a fixed seed, against a second store written another way: its replicas hold
  * sets of writes instead of vectors, and its command text is judged by a pattern. Every answer and,
- * after one call in three, the digest must agree.
+ * after one call in three, the digest must agree. Some runs keep to the edges of every range, some
+ * begin with a store that is nearly full, and some texts are as long as a text can be.
  */
 public final class ModelTest {
     private static final int RUNS = 600;
@@ -36,6 +37,11 @@ public final class ModelTest {
     }
 
     private void play() {
+        if (run % 5 == 1) {
+            for (int i = random.nextInt(3) + 57; i > 0; i--) {
+                call(10);
+            }
+        }
         while (calls <= CALLS - 2) {
             // Typing takes many calls: the runs with little of it get far enough to fill the store.
             if (random.nextInt(run % 3 == 0 ? 12 : 100) == 0 && calls <= CALLS - 8) {
@@ -57,6 +63,9 @@ public final class ModelTest {
 
     /** Mostly a number of the range, now and then one just or far outside of it. */
     private int pick(int bound) {
+        if (run % 5 == 2) {
+            return pickEdge(bound);
+        }
         int chance = random.nextInt(60);
         if (chance == 0) {
             return bound;
@@ -65,6 +74,14 @@ public final class ModelTest {
             return -1;
         }
         return chance == 2 ? random.nextInt() : random.nextInt(bound);
+    }
+
+    private int pickEdge(int bound) {
+        int[] outside = {-1, bound, Integer.MIN_VALUE, Integer.MAX_VALUE};
+        if (random.nextInt(12) == 0) {
+            return outside[random.nextInt(outside.length)];
+        }
+        return random.nextBoolean() ? 0 : bound - 1;
     }
 
     private void call(int which) {
@@ -94,7 +111,10 @@ public final class ModelTest {
             case 32, 33 -> agree("compare " + r + " " + o, model.compare(r, o), store.compare(r, o));
             case 34 -> agree("breaches " + k, model.breaches(k), store.breaches(k));
             case 35, 36 -> agree("undo", model.undo(), store.undo());
-            case 37 -> agree("errorCount " + (-2 - k), model.errorCount(-2 - k), store.errorCount(-2 - k));
+            case 37 -> {
+                int code = -2 - pick(5);
+                agree("errorCount " + code, model.errorCount(code), store.errorCount(code));
+            }
             case 38 -> agree("writes", model.writes(), store.writes());
             default -> agree("execute \"" + model.text + "\"", model.execute(), store.execute());
         }
@@ -108,6 +128,9 @@ public final class ModelTest {
         }
         if (random.nextInt(3) == 0) {
             spoil(text);
+        }
+        if (random.nextInt(4) == 0 && text.length() < 100) {
+            text.insert(0, " ".repeat(100 - text.length() + random.nextInt(2)));
         }
         for (int i = 0; i < text.length() && calls <= CALLS - 6; i++) {
             int sign = text.charAt(i);

@@ -350,6 +350,13 @@ public final class BoundaryRulesTest extends Boundary {
         Check.due("clock(2), which learned 1 behind 5", 5, chain.clock(2));
         chain.sync(2, 1);
         Check.due("clock(1), which learned 5 writes of another", 5, chain.clock(1));
+        Store equal = store();
+        equal.write(0, 0, 0, 1);
+        equal.write(0, 1, 0, 1);
+        equal.sync(0, 1);
+        equal.sync(1, 2);
+        Check.due("clock(1), which learned its own timestamp", 1, equal.clock(1));
+        Check.due("clock(2), which learned two writes of timestamp 1", 1, equal.clock(2));
     }
 
     private void laterByTimestamp() {
@@ -651,6 +658,11 @@ public final class BoundaryRulesTest extends Boundary {
         Check.due("readCount(0, 2) after a refused read", 0, store.readCount(0, 2));
         Check.due("readCount(1, 0) of another client", 0, store.readCount(1, 0));
         Check.due("count(0, 1), which no read changes", 0, store.count(0, 1));
+        store.sync(0, 1);
+        store.read(3, 1, 3);
+        Check.due("readCount(3, 0), of a write that the replica learned", 1, store.readCount(3, 0));
+        Check.due("readCount(3, 1), of a write that the replica accepted", 1, store.readCount(3, 1));
+        Check.due("readCount(3, 2), of what it does not know", 0, store.readCount(3, 2));
     }
 
     private void writeSetsCount() {
@@ -667,6 +679,9 @@ public final class BoundaryRulesTest extends Boundary {
         Check.due("writeCount(0, 1)", 1, store.writeCount(0, 1));
         Check.due("writeCount(0, 0), which stays", 3, store.writeCount(0, 0));
         Check.due("readCount(0, 0), which no write changes", 0, store.readCount(0, 0));
+        store.write(2, 1, 0, 1);
+        Check.due("writeCount(2, 1)", 2, store.writeCount(2, 1));
+        Check.due("writeCount(2, 0), of writes that only the replica knows", 0, store.writeCount(2, 0));
         store.setGuarantees(1, 8);
         Check.refused("write(1, 2, 0, 1)", store, -3, () -> store.write(1, 2, 0, 1));
         Check.due("writeCount(1, 2) after a refused write", 0, store.writeCount(1, 2));
